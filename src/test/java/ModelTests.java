@@ -709,6 +709,10 @@ public final class ModelTests {
         Driver(int seed) {
             random = new Random(seed * 7919L + 13);
             style = seed % 4;
+            for (int tape = 0; tape < 6 && style > 0; tape++) {
+                x.tape(tape, (tape + style) % 5, 9);
+                m.tape(tape, (tape + style) % 5, 9);
+            }
         }
 
         int below(int n) {
