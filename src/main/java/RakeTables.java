@@ -540,9 +540,11 @@ public final class RakeTables {
         private final long[] above = new long[MOST];
         private final long[] below = new long[MOST];
         private int size;
+        private boolean isByZero;
 
         void clear() {
             size = 0;
+            isByZero = false;
         }
 
         void times(Table table, int place) {
@@ -558,11 +560,12 @@ public final class RakeTables {
             above[size] = newAbove;
             below[size] = newBelow;
             size++;
+            if (newBelow == 0) isByZero = true;
         }
 
         /** NO for both parts, if there is a 0 below the line or either of them is no long. */
         long partOf(int part) {
-            if (productOf(below) == 0) return NO;
+            if (isByZero) return NO;
             cancel();
             long allAbove = productOf(above);
             long allBelow = productOf(below);
@@ -584,12 +587,9 @@ public final class RakeTables {
 
         private long productOf(long[] numbers) {
             long all = 1;
-            boolean isLong = true;
             for (int i = 0; i < size; i++) {
-                // A 0 makes the whole 0, even behind what is too great for a long.
-                if (numbers[i] == 0) return 0;
-                if (isLong) all = Fraction.product(all, numbers[i]);
-                isLong = all != NO;
+                // Three of these numbers are always a long together, so that no 0 stands behind what is none.
+                if (all != NO) all = Fraction.product(all, numbers[i]);
             }
             return all;
         }

@@ -708,7 +708,7 @@ public final class ModelTests {
 
         Driver(int seed) {
             random = new Random(seed * 7919L + 13);
-            style = seed % 4;
+            style = seed % 5;
             for (int tape = 0; tape < 6 && style > 0; tape++) {
                 x.tape(tape, (tape + style) % 5, 9);
                 m.tape(tape, (tape + style) % 5, 9);
@@ -749,7 +749,7 @@ public final class ModelTests {
         }
 
         int marginValue() {
-            return style == 0 ? upTo(5) : style == 1 ? upTo(13) : below(20) == 0 ? 61 : below(61);
+            return style == 0 ? upTo(5) : style == 4 ? upTo(3) : style == 1 ? upTo(13) : below(20) == 0 ? 61 : below(61);
         }
 
         void is(String name, long got, long want) {

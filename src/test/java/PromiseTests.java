@@ -22,6 +22,7 @@ public final class PromiseTests {
         promise9();
         promise10Done();
         promise10Faults();
+        promise10Zeros();
         promise11();
         promise12();
         promise13();
@@ -31,9 +32,12 @@ public final class PromiseTests {
         promise17();
         promise18();
         promise18Forbids();
+        edgesOfFine();
         promise19();
+        promise19Without();
         promise20();
         promise21();
+        promise21TooLong();
         promise22();
         promise23();
         promise24();
@@ -42,9 +46,11 @@ public final class PromiseTests {
         promise27();
         promise28();
         promise29();
+        promise29Cells();
         promises30and31();
         promise32();
         promises33and34();
+        promise34ByHand();
         promise35();
         promise36();
         promises37and38();
@@ -75,6 +81,19 @@ public final class PromiseTests {
         x.mark(1, 2, 2);
         x.mark(2, 0, 1);
         x.rounds(1);
+        return x;
+    }
+
+    /** Tells margins of a way and fits by it. */
+    private static int fitted(RakeTables x, int way, int... values) {
+        return margins(x, way, values).fit(way);
+    }
+
+    /** Row by row. */
+    private static RakeTables marked(RakeTables x, int... marks) {
+        int columns = x.told(1);
+        for (int c = 0; c < marks.length; c++) x.mark(c / columns, c % columns, marks[c]);
+        x.three(true);
         return x;
     }
 
@@ -305,6 +324,12 @@ public final class PromiseTests {
             due("10: empty then", x.count(3), 0);
             due("10: nothing is done", x.told(2) + x.told(7), 4);
         }
+    }
+
+    private static void promise10Zeros() {
+        RakeTables x = new RakeTables();
+        due("10: done, though 0 was there", text(x, "n000;n005;m000;m0010;k000;k002"), 6);
+        due("10: told", x.of(0, 0, 0), 5);
     }
 
     private static void promise11() {
@@ -541,6 +566,39 @@ public final class PromiseTests {
         due("18: rows 0 and 2", outer.told(6), 5);
     }
 
+    private static void edgesOfFine() {
+        RakeTables x = table(3, 2, 18, 8, 6, 9, 16, 12);
+        fitted(x, 0, 3, 3, 1);
+        fitted(x, 1, 2, 1);
+        due("fine: a sum with 999999 above isn't", x.sum(0, 1, 0), 999999);
+        due("fine: nor below", x.sum(0, 1, 1), 836978);
+        x = table(3, 2, 7, 8, 9, 8, 5, 19);
+        fitted(x, 0, 1, 1, 1);
+        fitted(x, 1, 1, 1);
+        due("fine: a sum with 999999 below isn't", x.sum(0, 2, 1), 999999);
+        due("fine: nor above", x.sum(0, 2, 0), 613870);
+        x = table(2, 2, 5, 12, 3, 13);
+        fitted(x, 1, 5, 3);
+        fitted(x, 0, 3, 5);
+        due("fine: a sum with 1000000 above is", x.sum(1, 0, 0), NO);
+        due("fine: the other isn't", x.sum(1, 1, 0), 672616);
+        x = marked(table(2, 3, 14, 3, 13, 7, 17, 12), 2, 1, 2, 2, 2, 2);
+        fitted(x, 2, 1, 2, 1);
+        fitted(x, 0, 1, 1);
+        fitted(x, 1, 2, 2, 2);
+        fitted(x, 2, 1, 1, 1);
+        due("fine: a sum with 1000000 below is", x.sum(0, 1, 0), NO);
+        due("fine: the other isn't", x.sum(1, 0, 1), 1875);
+        x = table(3, 2, 11, 6, 20, 17, 13, 14);
+        fitted(x, 0, 13, 17, 1);
+        due("fine: a cell with 999999 isn't", fitted(x, 1, 7, 6), 6);
+        cellIs(x, 0, 0, 999999, 307094);
+        x = table(2, 2, 16, 9, 7, 20);
+        fitted(x, 0, 17, 40);
+        due("fine: a cell with 1000000 is", fitted(x, 1, 53, 50), -6);
+        cellIs(x, 1, 1, 800, 27);
+    }
+
     private static void promise19() {
         RakeTables x = table(1, 3, 1, 1, 1);
         x.fit(0);
@@ -568,9 +626,33 @@ public final class PromiseTests {
         RakeTables thirds = margins(table(3, 1, 1, 1, 1), 1, 2);
         thirds.fit(1);
         roundedIs(thirds, 0, 1, 1);
+        RakeTables stays = margins(table(2, 3, 1, 1, 2, 1, 0, 1), 0, 2, 1);
+        stays.fit(0);
+        // 1/2 1/2 1 | 1/2 0 1/2: a whole one stays, else 0 0 2 | 1 0 0 were less; without column 0, 0 1 1 | 0 0 1.
+        roundedIs(stays, 0, 1, 1, 1, 0, 0);
         RakeTables fine = nearlyFine();
         due("19: the rows' sums together are fine", fine.rounded(0, 0), -6);
         due("19: none ahead of fine", fine.rounded(3, 0), -1);
+    }
+
+    private static void promise19Without() {
+        RakeTables columns = table(3, 3, 20, 20, 19, 18, 18, 17, 16, 16, 15);
+        fitted(columns, 0, 60, 60, 60);
+        due("19: columns' sums are fine", columns.rounded(0, 0), -6);
+        due("19: rows' aren't", columns.sum(0, 2, 0), 60);
+        due("12: no fit by them", columns.fit(1), -6);
+        due("13: no round", columns.rounds(1), 0);
+        due("17: no farthest", columns.farthest(), -6);
+        due("18: not settled, nor otherwise", columns.told(4), -6);
+        RakeTables rows = table(3, 3, 20, 18, 16, 20, 18, 16, 19, 17, 15);
+        fitted(rows, 1, 60, 60, 60);
+        due("19: rows' sums are fine", rows.rounded(0, 0), -6);
+        due("19: columns' aren't", rows.sum(1, 2, 0), 60);
+        due("12: no fit by them", rows.fit(0), -6);
+        due("13: no round", rows.rounds(1), 0);
+        due("17: no farthest", rows.farthest(), -6);
+        rows.begin();
+        due("19: anew", rows.rounded(0, 1), 18);
     }
 
     private static void promise20() {
@@ -615,6 +697,22 @@ public final class PromiseTests {
         due("21: a round leaves it", x.cross(0, 1, 0, 1, 1), 3);
     }
 
+    private static void promise21TooLong() {
+        RakeTables x = marked(table(3, 2, 7, 2, 16, 9, 17, 7), 1, 0, 2, 1, 0, 2);
+        fitted(x, 2, 1, 1, 2);
+        fitted(x, 0, 3, 2, 1);
+        fitted(x, 2, 3, 1, 1);
+        // 2222547406047143945 above, 16522692651349991424 below.
+        due("21: no long below, above", x.cross(0, 1, 0, 1, 0), NO);
+        due("21: no long below, below", x.cross(0, 1, 0, 1, 1), NO);
+        due("21: no long above, above", x.cross(1, 0, 0, 1, 0), NO);
+        due("21: no long above, below", x.cross(1, 0, 0, 1, 1), NO);
+        due("21: equal ones are cancelled", x.cross(1, 1, 0, 1, 0), 1);
+        x = marked(table(2, 3, 5, 19, 7, 19, 6, 14), 1, 1, 2, 0, 0, 1);
+        due("21: of counts", x.cross(0, 1, 0, 1, 1), 19 * 19);
+        due("21: of counts", x.cross(0, 1, 0, 1, 0), 30);
+    }
+
     private static void promise22() {
         due("22: four things", new RakeTables().orders(), 24);
         due("22: some alike", table(2, 2, 2, 1, 0, 3).orders(), 60);
@@ -641,6 +739,7 @@ public final class PromiseTests {
         due("23: none behind", x.rank(6), -1);
         due("23: none ahead", x.rank(-1), -1);
         due("23: none", x.rank(MAX), -1);
+        due("23: none behind the only one", table(1, 1, 3).rank(1), -1);
         x.fit(0);
         // 30/11 50/11 30/11 | 0 25/7 45/7: the table, not the counts.
         int[] fitted = {12, 1, 11, 0, 2, 10};
@@ -747,6 +846,8 @@ public final class PromiseTests {
 
     private static void promise28() {
         RakeTables x = table(2, 3);
+        due("28: the first cell", x.event(0, 0), 1);
+        x.event(-1, 0);
         due("28: a count", x.event(0, 12), 1);
         due("28: a row", x.event(1, 1), 2);
         due("28: a column", x.event(2, 2), 3);
@@ -809,6 +910,24 @@ public final class PromiseTests {
         x.event(1, 1);
         x.event(3, 1);
         due("29: in order", x.after(2), 2 - 120);
+    }
+
+    private static void promise29Cells() {
+        for (int i = 0; i < 3; i++) {
+            for (int j = 0; j < 3; j++) {
+                int[] counts = new int[9];
+                for (int c = 0; c < 9; c++) counts[c] = c % 3 == (c / 3 + j - i + 3) % 3 ? 2 : 0;
+                RakeTables x = table(3, 3, counts);
+                due("29: a cell for each row", x.after(0), 1);
+                due("29: the cell goes", x.event(0, 10 * i + j), 1);
+                due("29: not possible", x.after(0), 0);
+                due("29: its row", x.after(1), 1 << i);
+            }
+        }
+        RakeTables x = new RakeTables();
+        x.size(3, 3);
+        x.event(3, 7);
+        due("29: rows alone", x.after(2), 21 - 30);
     }
 
     private static void promises30and31() {
@@ -930,6 +1049,37 @@ public final class PromiseTests {
         due("34: its rows", x.told(0), 1);
     }
 
+    private static void promise34ByHand() {
+        RakeTables x = table(2, 1, 3, 4);
+        margins(margins(x, 0, 6, 8), 1, 14);
+        x.see(0, 0, 6);
+        x.see(1, 0, 8);
+        x.book(0, 0, 3);
+        x.book(1, 0, 4);
+        x.event(2, 0);
+        x.event(0, 10);
+        x.image();
+        x.see(-1, 0, 0);
+        x.see(1, 0, 0);
+        x.see(0, 0, 0);
+        x.see(0, 0, 1);
+        x.book(-1, 0, 0);
+        x.book(1, 0, 9);
+        x.book(0, 0, 9);
+        x.book(0, 0, 9);
+        x.event(-1, 0);
+        x.event(1, 0);
+        x.event(1, 1);
+        x.event(1, 1);
+        due("34: otherwise now", x.looked(), 0);
+        due("34: otherwise now", x.fitting(0, 0, 0), 0);
+        due("34: undo", x.undo(), 2);
+        due("34: the book, cells and numbers", x.looked(), -5);
+        due("34: seen, cells and numbers", x.fitting(0, 0, 0), 20);
+        due("34: events", x.after(2), -1);
+        due("34: events, the cell", x.after(1), 2);
+    }
+
     private static void promise35() {
         RakeTables x = new RakeTables();
         x.see(0, 0, 1);
@@ -964,6 +1114,7 @@ public final class PromiseTests {
         due("36: size", x.tape(0, 4, MIN), -14);
         due("36: holds nothing", x.tape(5, -1, 61), 1);
         due("36: holds nothing", x.item(5, 0, 1), -11);
+        due("36: not even a first item", x.peek(5, 0), NO);
         due("36: n does not matter", x.tape(5, -1, -1), 1);
     }
 
