@@ -12,6 +12,7 @@ public final class RakeTables {
     private static final int MOST_SIGNS = 100, MOST_CLAUSES = 12, MOST_SIGN = 127;
     private static final int MOST_ABOVE_OR_BELOW = 999999;
     private static final int ODDS_COUNTS = 10;
+    private static final long MOST_LONG = 9223372036854775807L;
 
     private final Picture now = new Picture();
     private final Picture taken = new Picture();
@@ -520,7 +521,7 @@ public final class RakeTables {
 
         /** The product of two numbers that are 0 or more; NO, if it is no long. */
         static long product(long one, long other) {
-            if (one > 0 && other > Long.MAX_VALUE / one) return NO;
+            if (one > 0 && other > MOST_LONG / one) return NO;
             return one * other;
         }
 
@@ -597,7 +598,7 @@ public final class RakeTables {
 
     /** What is told: the size, counts, marks, margins, and whether marks are fitted. */
     static final class Setting {
-        private static final int FIRST_COUNT = 1, FIRST_MARGIN = 10;
+        static final int FIRST_COUNT = 1, FIRST_MARGIN = 10;
         int rows;
         int columns;
         boolean isThree;
@@ -738,6 +739,13 @@ public final class RakeTables {
         int rounds;
         private final Fraction lineSum = new Fraction();
         private final Fraction fitted = new Fraction();
+
+        Table() {
+            for (int place = 0; place < CELLS; place++) {
+                above[place] = Setting.FIRST_COUNT;
+                below[place] = 1;
+            }
+        }
 
         void takeCounts(Setting setting) {
             for (int place = 0; place < CELLS; place++) {
@@ -942,10 +950,6 @@ public final class RakeTables {
         final Notes seen = new Notes(MOST_SEEN);
         final Notes events = new Notes(MOST_EVENTS);
         final Notes book = new Notes(MOST_BOOKED);
-
-        Picture() {
-            table.takeCounts(setting);
-        }
 
         /** What was told by hand names cells and lines, which may be gone now. */
         void become(int rows, int columns) {
