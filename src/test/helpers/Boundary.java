@@ -134,7 +134,10 @@ abstract class Boundary {
 
     static void ask(RakeTables x, StringBuilder all) {
         for (int a = 0; a < 9; a++) all.append(x.told(a)).append(' ').append(x.rank(a)).append(' ');
-        for (int a = 0; a < 4; a++) all.append(x.count(a)).append(' ').append(x.after(a)).append(' ').append(x.mean(a)).append(' ');
+        for (int a = 0; a < 4; a++) {
+            all.append(x.count(a)).append(' ').append(x.after(a)).append(' ').append(x.mean(a)).append(' ');
+            all.append(x.cross(0, 1, a, a / 2, 0)).append(' ');
+        }
         for (int a = 0; a < 3; a++) {
             for (int b = 0; b < 3; b++) {
                 all.append(x.marginOf(a, b)).append(' ').append(x.together(a, b)).append(' ').append(x.rounded(a, b)).append(' ');
@@ -154,7 +157,11 @@ abstract class Boundary {
 
     static void changesNothing(String call, Supplier<RakeTables> made, ToLongFunction<RakeTables> answer, long want) {
         due(call, answer.applyAsLong(made.get()), want);
-        due(call + " changes nothing", reading(behind(made, answer)).equals(reading(made)) ? 1 : 0, 1);
+        alike(call + " changes nothing", behind(made, answer), made);
+    }
+
+    static void alike(String what, Supplier<RakeTables> one, Supplier<RakeTables> other) {
+        due(what, reading(one).equals(reading(other)) ? 1 : 0, 1);
     }
 
     static Supplier<RakeTables> behind(Supplier<RakeTables> made, ToLongFunction<RakeTables> call) {
@@ -212,7 +219,7 @@ abstract class Boundary {
         return x;
     }
 
-    /** An image, and the same ahead of it. */
+    /** Something of all that the image keeps, and the image of it. */
     static RakeTables pictured() {
         RakeTables x = marked(table(2, 3, 1, 3, 2, 2, 1, 3), 0, 1, 2, 2, 1, 0);
         margins(margins(margins(x, 0, 12, 12), 1, 8, 8, 8), 2, 8, 8, 8);

@@ -1,3 +1,4 @@
+import java.util.function.Supplier;
 import java.util.function.ToLongFunction;
 
 /** The boundary cases of the terms, part 2: what is asked. */
@@ -182,10 +183,19 @@ public final class BoundaryAskedTests extends Boundary {
         fitted(sixths, 0, 1, 1, 0);
         // 1/3 2/3 | 1/3 2/3 | 0 0: the first column has 0 or 1, the second 1 or 2.
         roundedIs(sixths, 0, 1, 0, 1, 0, 0);
+        RakeTables wide = table(2, 3);
+        fitted(wide, 0, 1, 1);
+        // Six times 1/3: the last column, too, has 0 or 1.
+        roundedIs(wide, 0, 0, 1, 0, 1, 0);
+        RakeTables high = table(3, 2);
+        fitted(high, 1, 1, 1);
+        // Six times 1/3: the last row, too, has 0 or 1.
+        roundedIs(high, 0, 0, 0, 1, 1, 0);
     }
 
     private static void leastInTheFirst() {
-        terms("that which has the least in the first CELL, of several of these in the second one, and so on (there is always one).");
+        terms("that which has the least in the first CELL, of several of these in the second one, and so on "
+                + "(there is always one).");
         RakeTables x = table(2, 3, 1, 1, 1, 1, 1, 1);
         fitted(x, 1, 1, 1, 1);
         // Six halves, each row 3/2: all have 3, each column 1.
@@ -351,6 +361,8 @@ public final class BoundaryAskedTests extends Boundary {
         crossIs(x, 0, 1, 0, 1, 15, 8);
         x.fit(0);
         crossIs(x, 0, 1, 0, 1, NO, NO);
+        x.begin();
+        crossIs(x, 0, 1, 0, 1, 15, 8);
     }
 
     private static void crossTooLong() {
@@ -727,13 +739,15 @@ public final class BoundaryAskedTests extends Boundary {
 
     private static void broughtBack(String what, ToLongFunction<RakeTables> change) {
         due("undo of " + what, behind(Boundary::pictured, change).get().undo(), 6);
-        String undone = reading(behind(behind(Boundary::pictured, change), RakeTables::undo));
-        due("all is as it was ahead of " + what, undone.equals(reading(Boundary::pictured)) ? 1 : 0, 1);
+        Supplier<RakeTables> undone = behind(behind(Boundary::pictured, change), RakeTables::undo);
+        alike("all is as it was ahead of " + what, undone, Boundary::pictured);
     }
 
     private static void imageOfEach() {
         terms("THE IMAGE: ROWS, COLUMNS, COUNTS, MARKS, MARGINS, THREE, the TABLE and its ROUNDS, SEEN, EVENTS, the BOOK.");
         broughtBack("nothing", x -> 0);
+        Supplier<RakeTables> whenFull = behind(Boundary::full, RakeTables::image);
+        alike("an image of all that can be told by hand", behind(whenFull, RakeTables::undo), whenFull);
         broughtBack("rows", x -> x.size(3, 3));
         broughtBack("columns", x -> x.size(2, 1));
         broughtBack("size as it was", x -> x.size(2, 3));
@@ -762,8 +776,7 @@ public final class BoundaryAskedTests extends Boundary {
 
     private static void imageIsItsOwn() {
         terms("THE IMAGE: ROWS, COLUMNS,");
-        String undone = reading(BoundaryAskedTests::toldBehindAnUndo);
-        due("what is told behind an undo doesn't come into the image", undone.equals(reading(Boundary::pictured)) ? 1 : 0, 1);
+        alike("what is told behind an undo isn't in the image", BoundaryAskedTests::toldBehindAnUndo, Boundary::pictured);
         RakeTables x = pictured();
         x.size(1, 3);
         due("another image", x.image(), 3);

@@ -17,6 +17,7 @@ public final class BoundaryPromiseTests extends Boundary {
         aNewObject();
         sizeRefused();
         sizeEmpties();
+        sizeLeavesNothing();
         tellRefused();
         markRefused();
         marginRefused();
@@ -46,7 +47,6 @@ public final class BoundaryPromiseTests extends Boundary {
                 due("size(" + m + ", " + n + ")", new RakeTables().size(m, n), BAD);
             }
         }
-        for (int n = 1; n <= 9; n++) due("size", new RakeTables().size((n + 2) / 3, (n - 1) % 3 + 1), (n + 2) / 3 * ((n - 1) % 3 + 1));
     }
 
     private static void sizeEmpties() {
@@ -75,6 +75,46 @@ public final class BoundaryPromiseTests extends Boundary {
         due("its margin", x.marginOf(0, 2), 10);
     }
 
+    private static void sizeLeavesNothing() {
+        promise(2, "ROWS, COLUMNS become so many, all COUNTS 1, MARKS 0, MARGINS 10;");
+        for (int rows = 1; rows <= 3; rows++) {
+            for (int columns = 1; columns <= 3; columns++) {
+                final int r = rows;
+                final int c = columns;
+                alike("as a new one", () -> raked(usedOfNine(), r, c), () -> raked(new RakeTables(), r, c));
+            }
+        }
+    }
+
+    private static RakeTables raked(RakeTables x, int rows, int columns) {
+        x.size(rows, columns);
+        x.tell(0, columns - 1, 2);
+        x.tell(rows - 1, 0, 3);
+        x.rounds(1);
+        return x;
+    }
+
+    /** All of it told and asked once, so that whatever could be left over is there. */
+    private static RakeTables usedOfNine() {
+        RakeTables x = marked(table(3, 3, 20, 19, 18, 17, 0, 16, 15, 14, 13), 1, 2, 0, 2, 0, 1, 0, 1, 2);
+        x.three(false);
+        for (int way = 0; way < 3; way++) margins(x, way, 50, 60, 40);
+        for (int c = 0; c < 5; c++) x.see(2, 2, 9);
+        for (int c = 0; c < 8; c++) x.book(2, 2, 9);
+        for (int c = 0; c < 8; c++) x.event(0, 22);
+        x.rounded(0, 0);
+        x.together(2, 2);
+        x.fitting(0, 0, 0);
+        x.odds(0, 0, 0);
+        x.after(0);
+        x.cross(0, 1, 0, 1, 0);
+        x.farthest();
+        x.orders();
+        x.rounds(1);
+        x.fit(0);
+        return x;
+    }
+
     private static void tellRefused() {
         promise(3, "NONE; BAD.");
         for (int n : new int[] {MIN, -1, 2, 3, MAX}) {
@@ -83,6 +123,9 @@ public final class BoundaryPromiseTests extends Boundary {
         }
         for (int n : new int[] {MIN, -1, 21, 256, MAX}) due("tell(0, 0, " + n + ")", new RakeTables().tell(0, 0, n), BAD);
         for (int n = 0; n <= 20; n++) due("tell(0, 0, " + n + ")", new RakeTables().tell(0, 0, n), 1);
+        RakeTables x = table(3, 3);
+        for (int c = 0; c < 9; c++) due("tell of cell " + c, x.tell(c / 3, c % 3, c + 7), 1);
+        for (int c = 0; c < 9; c++) due("what it was", x.tell(c / 3, c % 3, 0), c + 7);
     }
 
     private static void markRefused() {
@@ -93,6 +136,9 @@ public final class BoundaryPromiseTests extends Boundary {
         }
         for (int m : new int[] {MIN, -1, 3, MAX}) due("mark(0, 0, " + m + ")", new RakeTables().mark(0, 0, m), BAD);
         for (int m = 0; m <= 2; m++) due("mark(0, 0, " + m + ")", new RakeTables().mark(0, 0, m), 0);
+        RakeTables x = table(3, 3);
+        for (int c = 0; c < 9; c++) due("mark of cell " + c, x.mark(c / 3, c % 3, (c + c / 3) % 3), 0);
+        for (int c = 0; c < 9; c++) due("what it was", x.mark(c / 3, c % 3, 0), (c + c / 3) % 3);
     }
 
     private static void marginRefused() {
@@ -103,7 +149,9 @@ public final class BoundaryPromiseTests extends Boundary {
             RakeTables x = new RakeTables();
             x.size(2, 3);
             due("the last line", x.margin(way, lines[way] - 1, 1), 10);
-            for (int k : new int[] {MIN, -1, lines[way], MAX}) due("margin(" + way + ", " + k + ", 1)", x.margin(way, k, 1), NONE);
+            for (int k : new int[] {MIN, -1, lines[way], MAX}) {
+                due("margin(" + way + ", " + k + ", 1)", x.margin(way, k, 1), NONE);
+            }
             for (int v : new int[] {MIN, -1, 61, MAX}) due("margin(" + way + ", 0, " + v + ")", x.margin(way, 0, v), BAD);
             int was = 10;
             for (int v = 0; v <= 60; v++) {
@@ -135,6 +183,13 @@ public final class BoundaryPromiseTests extends Boundary {
         }
         due("count", x.of(0, 0, 0), 1);
         due("mark", x.of(0, 0, 1), 0);
+        RakeTables nine = table(3, 3, 0, 20, 1, 19, 2, 18, 3, 17, 4);
+        int[] counts = {0, 20, 1, 19, 2, 18, 3, 17, 4};
+        for (int c = 0; c < 9; c++) nine.mark(c / 3, c % 3, (c + c / 3) % 3);
+        for (int c = 0; c < 9; c++) {
+            due("count of cell " + c, nine.of(c / 3, c % 3, 0), counts[c]);
+            due("mark of cell " + c, nine.of(c / 3, c % 3, 1), (c + c / 3) % 3);
+        }
     }
 
     private static void marginOfRefused() {
@@ -407,6 +462,10 @@ public final class BoundaryPromiseTests extends Boundary {
         due("a column", x.together(1, 1), 4);
         int[] marks = {3, 0, 4};
         for (int k = 0; k < 3; k++) due("a mark, not three", x.together(2, k), marks[k]);
+        RakeTables high = table(3, 1, 3, 4, 5);
+        due("the last row", high.together(0, 2), 5);
+        due("all of a column", high.together(1, 0), 12);
+        due("all of a mark", high.together(2, 0), 12);
         for (int way = 0; way < 3; way++) {
             for (int k = 0; k < 3; k++) due("there is none", rowsTogetherFine().together(way, k), FINE);
         }
@@ -500,6 +559,7 @@ public final class BoundaryPromiseTests extends Boundary {
             due("odds(0, 0, " + n + ")", x.odds(0, 0, n), NO);
         }
         due("behind the last row", x.odds(1, 0, 1), NO);
+        x.tell(0, 1, 0);
         due("above", x.odds(0, 1, 0), 1);
         due("below", x.odds(0, 1, 1), 2);
     }
@@ -526,6 +586,8 @@ public final class BoundaryPromiseTests extends Boundary {
         countRefused();
         tapeRefused();
         tapeAnew();
+        tapeOfEachSize();
+        itemLowestBits();
         itemRefused();
         peekRefused();
         shiftRefused();
@@ -711,6 +773,37 @@ public final class BoundaryPromiseTests extends Boundary {
         due("a row of none isn't nothing", x.item(0, 0, 1), PLACE);
     }
 
+    private static void tapeOfEachSize() {
+        promise(36, "A TAPE becomes a row of n (0 .. 60) of a sort,");
+        for (int sort = 0; sort <= 4; sort++) {
+            for (int n = 0; n <= 60; n += 20) {
+                RakeTables x = new RakeTables();
+                due("tape", x.tape(4, sort, n), 1);
+                for (int i = 0; i < n; i++) due("item", x.item(4, i, 1), 1);
+                for (int i = 0; i < n; i++) due("peek", x.peek(4, i), 1);
+                due("item behind the last", x.item(4, n, 1), PLACE);
+                due("peek behind the last", x.peek(4, n), NO);
+            }
+        }
+    }
+
+    private static void itemLowestBits() {
+        promise(37, "Item i of a TAPE becomes v (its lowest bits, as many as an item has; booleans: whether v is not 0): 1.");
+        int[] bits = {8, 16, 32, 64, 1};
+        for (int sort = 0; sort <= 4; sort++) {
+            RakeTables x = new RakeTables();
+            x.tape(0, sort, 1);
+            for (int b = 0; b < 64; b++) {
+                due("item of bit " + b, x.item(0, 0, 1L << b), 1);
+                // The highest of its bits is the one below 0.
+                long kept = b >= bits[sort] ? 0 : b == bits[sort] - 1 ? -1L << b : 1L << b;
+                due("sort " + sort + ", bit " + b, x.peek(0, 0), sort == 4 ? 1 : kept);
+                x.item(0, 0, ~(1L << b));
+                due("sort " + sort + ", all but bit " + b, x.peek(0, 0), sort == 4 ? 1 : ~kept);
+            }
+        }
+    }
+
     private static void itemRefused() {
         promise(37, "booleans: whether v is not 0): 1. NONE; NOTHING; PLACE.");
         RakeTables x = new RakeTables();
@@ -817,6 +910,8 @@ public final class BoundaryPromiseTests extends Boundary {
     private static void noIsTheLeastLong() {
         sentenceIn("The constants: ", "Ahead of the calls", "`NO = Long.MIN_VALUE`: There is no such number.");
         due("NO", RakeTables.NO, Long.MIN_VALUE);
+        answering("NONE (-1) no such number; BAD (-2) a number is not as told; STATE (-3) as told; FULL (-4); "
+                + "FINE (-6) as told;");
         int[] constants = {RakeTables.NONE, RakeTables.BAD, RakeTables.STATE, RakeTables.FULL, RakeTables.FINE};
         int[] values = {-1, -2, -3, -4, -6};
         for (int c = 0; c < 5; c++) due("a constant", constants[c], values[c]);

@@ -10,6 +10,7 @@ public final class BoundaryRefusalTests extends Boundary {
 
     private static void termsOfTapes() {
         sixTapes();
+        hostsRefusals();
         bytesWrapAround();
         shortsWrapAround();
         intsWrapAround();
@@ -49,6 +50,23 @@ public final class BoundaryRefusalTests extends Boundary {
             due("the one ahead of it", x.peek(0, 0), 0);
             due("the one behind it", x.peek(0, 2), 0);
         }
+    }
+
+    private static void hostsRefusals() {
+        terms("The host's refusals: NOTHING (-11): nothing is there; CAST (-12): another sort; PLACE (-13): no such place; "
+                + "SIZE (-14): a size below 0.");
+        RakeTables x = new RakeTables();
+        due("nothing is there", x.item(0, 0, 1), -11);
+        due("a size below 0", x.tape(0, 0, -1), -14);
+        due("nothing is there, still", x.item(0, 0, 1), -11);
+        x.tape(0, 0, 1);
+        x.tape(1, 1, 1);
+        due("another sort", x.shift(0, 0, 1, 0, 1), -12);
+        due("another sort than ints", x.judge(1, 0), -12);
+        due("no such place", x.item(0, 1, 1), -13);
+        due("no such place", x.shift(0, 1, 0, 0, 1), -13);
+        x.tape(0, -1, 0);
+        due("nothing is there any more", x.shift(0, 0, 1, 0, 1), -11);
     }
 
     private static void bytesWrapAround() {
@@ -147,6 +165,15 @@ public final class BoundaryRefusalTests extends Boundary {
         refusedAsFull();
         refusedAsFine();
         askedChangesNothing();
+        allAskedChangesNothing();
+    }
+
+    private static void allAskedChangesNothing() {
+        terms("All that follows is asked, and changes nothing.");
+        alike("all is as ahead of it", behind(Boundary::pictured, x -> {
+            ask(x, new StringBuilder());
+            return 0;
+        }), Boundary::pictured);
     }
 
     private static void firstThatIsNamed() {

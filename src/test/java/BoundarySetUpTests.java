@@ -16,6 +16,7 @@ public final class BoundarySetUpTests extends Boundary {
         cellsInOrder();
         countsFrom0To20();
         marksFrom0To2();
+        waysAndTheirLines();
         linesOfNone();
         marginsFrom0To60();
         notThreeAtFirst();
@@ -71,6 +72,27 @@ public final class BoundarySetUpTests extends Boundary {
         due("mark 3", x.mark(1, 1, 3), BAD);
         due("mark -1", x.mark(1, 1, -1), BAD);
         due("it stays", x.of(1, 1, 1), 0);
+    }
+
+    private static void waysAndTheirLines() {
+        terms("WAYS: 0 ROWS, 1 COLUMNS, 2 MARKS 0 .. 2. LINES of a WAY: each ROW's, COLUMN's CELLS,");
+        int[] most = {0, 0, 2};
+        for (int size = 1; size <= 3; size++) {
+            RakeTables x = new RakeTables();
+            x.size(size, 4 - size);
+            most[0] = size - 1;
+            most[1] = 3 - size;
+            for (int way = -1; way <= 3; way++) {
+                for (int k = -1; k <= 3; k++) {
+                    boolean isThere = way >= 0 && way < 3 && k >= 0 && k <= most[way];
+                    due("marginOf(" + way + ", " + k + ")", x.marginOf(way, k), isThere ? 10 : NONE);
+                    due("margin(" + way + ", " + k + ", 10)", x.margin(way, k, 10), isThere ? 10 : NONE);
+                    due("sum(" + way + ", " + k + ", 1)", x.sum(way, k, 1), isThere ? 1 : NO);
+                    due("gap(" + way + ", " + k + ", 1)", x.gap(way, k, 1), isThere ? 1 : NO);
+                    due("together(" + way + ", " + k + ")", x.together(way, k) >= 0 ? 0 : -1, isThere ? 0 : NONE);
+                }
+            }
+        }
     }
 
     private static void linesOfNone() {
@@ -336,6 +358,7 @@ public final class BoundarySetUpTests extends Boundary {
 
     private static void termsOfFits() {
         lineOfZeroStays();
+        everyLineIsFitted();
         marginOfZero();
         noFitByASum();
         noFitByACell();
@@ -358,6 +381,22 @@ public final class BoundarySetUpTests extends Boundary {
         for (int way = 0; way < 3; way++) due("all of 0, way " + way, zeros.fit(way), 0);
         due("no round of them", zeros.rounds(1), 0);
         roundedIs(zeros, 0, 0, 0, 0);
+    }
+
+    private static void everyLineIsFitted() {
+        terms("in each LINE of it");
+        for (int rows = 1; rows <= 3; rows++) {
+            for (int columns = 1; columns <= 3; columns++) {
+                RakeTables x = new RakeTables();
+                x.size(rows, columns);
+                int[] lines = {rows, columns, 1};
+                x.three(true);
+                for (int way = 0; way < 3; way++) {
+                    fitted(x, way, 20, 40, 60);
+                    for (int k = 0; k < lines[way]; k++) sumIs(x, way, k, 20 * (k + 1), 1);
+                }
+            }
+        }
     }
 
     private static void marginOfZero() {
@@ -451,6 +490,12 @@ public final class BoundarySetUpTests extends Boundary {
         due("one cell otherwise is enough", one.rounds(20), 1);
         cellIs(one, 1, 1, 5, 1);
         cellIs(one, 0, 0, 3, 1);
+        for (int c = 0; c < 9; c++) {
+            RakeTables x9 = table(3, 3, 0, 0, 0, 0, 0, 0, 0, 0, 0);
+            x9.tell(c / 3, c % 3, 9);
+            due("one of nine otherwise is enough", x9.rounds(20), 1);
+            cellIs(x9, c / 3, c % 3, 10, 1);
+        }
     }
 
     // ---- terms 1: the text
@@ -483,7 +528,9 @@ public final class BoundarySetUpTests extends Boundary {
         due("read of a hundred x", x.read(), -10 - 1);
         String longest = "m0010;m0111;m1012;m1113;m2014;m2115;m2216;n0017;n0118;n1019;n1120;s22";
         due("the longest kinds", text(x, longest), 12);
-        due("a hundred bytes, a fault behind twelve clauses", text(x, longest.replace("s22", "m1021") + "0;x;x;x;x;x;x;x;x;x;x;x;x;x;x"), -10 - 71);
+        String hundred = longest.replace("s22", "m1021") + "0;x;x;x;x;x;x;x;x;x;x;x;x;x;x";
+        due("its bytes", hundred.length(), 100);
+        due("a fault behind twelve clauses", text(x, hundred), -10 - 71);
     }
 
     private static void oneToTwelveClauses() {
@@ -639,8 +686,7 @@ public final class BoundarySetUpTests extends Boundary {
         String[] faulty = {"x;", "s33;", "n005;y", "k002;m0011;", "m0011;;", "x;s22;n00", "n005;x;x;x;x;x;x;x;x;x;x;x;x"};
         for (String text : faulty) {
             due("is a fault: " + text, text(new RakeTables(), text) <= -10 ? 1 : 0, 1);
-            String behind = reading(behind(RakeTables::new, x -> text(x, text)));
-            due("nothing is done by " + text, behind.equals(reading(RakeTables::new)) ? 1 : 0, 1);
+            alike("nothing is done by " + text, behind(RakeTables::new, x -> text(x, text)), RakeTables::new);
         }
     }
 }

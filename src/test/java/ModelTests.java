@@ -12,7 +12,8 @@ import java.util.regex.Pattern;
 public final class ModelTests {
     private static final long NO = Long.MIN_VALUE;
     private static final int OBJECTS = 1500;
-    private static final int CALLS = 512;
+    /** Six calls for tapes go ahead of them; behind 512 nothing is promised. */
+    private static final int CALLS = 506;
     private static int wrong = 0;
 
     public static void main(String[] args) {
